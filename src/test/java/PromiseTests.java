@@ -536,6 +536,8 @@ public final class PromiseTests {
     due("vital(3, 1, MAX)", kept.vital(3, 1, Integer.MAX_VALUE), NONE);
     due("vital(0, 2, 0)", kept.vital(0, 2, 0), NONE);
     due("vital(0, 0, 0)", kept.vital(0, 0, 0), NONE);
+    due("vital(0, 1, 0)", kept.vital(0, 1, 0), 0);
+    due("vital(0, 1, 1)", kept.vital(0, 1, 1), NONE);
     for (int post : NO_POSTS) {
       due("vital(" + post + ", 0, 0)", kept.vital(post, 0, 0), UNKNOWN);
       due("vital(0, " + post + ", -1)", kept.vital(0, post, -1), UNKNOWN);
@@ -586,6 +588,7 @@ public final class PromiseTests {
     kept.cut(2);
     kept.cut(3);
     due("ring()", kept.ring(), NONE);
+    due("ring() of one line", row(2).ring(), 2);
   }
 
   private static void height() {
@@ -785,6 +788,21 @@ public final class PromiseTests {
     due("worst(), to itself by no marks", oneWay.worst(), NONE);
     oneWay.line(1, 0, 9, false);
     due("worst()", oneWay.worst(), 12);
+    WaysKept fork = withPosts(3);
+    fork.line(0, 1, 0, false);
+    fork.line(1, 0, 7, false);
+    fork.line(1, 2, 0, false);
+    fork.line(2, 1, 8, false);
+    fork.line(0, 2, 5, false);
+    fork.marks(1);
+    due("worst(), one way unlike the other", fork.worst(), 15);
+    fork.marks(7);
+    due("worst()", fork.worst(), 0);
+    WaysKept ten = row(10);
+    ten.marks(1023);
+    due("worst() of ten posts", ten.worst(), 0);
+    ten.marks(512);
+    due("worst() of ten posts", ten.worst(), 18);
   }
 
   private static void hits() {
@@ -813,6 +831,9 @@ public final class PromiseTests {
     due("hits(5)", ten.hits(5), 0b0000100010);
     due("hits(2)", ten.hits(2), 0b0111111110);
     due("hits(1)", ten.hits(1), NONE);
+    WaysKept round = row(5);
+    round.line(0, 4, 2, true);
+    due("hits(2), all posts", round.hits(2), 31);
     WaysKept split = withPosts(6);
     split.line(0, 1, 1, false);
     split.line(1, 2, 1, false);
