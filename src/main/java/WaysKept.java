@@ -382,7 +382,7 @@ public final class WaysKept {
    */
   private static final class Ways {
     private static final int STEP = 64;
-    private static final int NOWHERE = Integer.MAX_VALUE;
+    private static final int NOWHERE = 1 << 30;
 
     private final Net net;
     private final int[] costs = new int[PAIRS];

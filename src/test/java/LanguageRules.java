@@ -160,7 +160,7 @@ public final class LanguageRules {
     Matcher called = Pattern.compile("\\b(Arrays|Math|Integer|System)\\.(\\w+)").matcher(source);
     while (called.find()) {
       if (!called.group().matches("Arrays\\.(copyOf|copyOfRange|fill)|Math\\.(min|max|abs|floorDiv|floorMod)"
-          + "|Integer\\.(bitCount|compare|MAX_VALUE|MIN_VALUE)|System\\.arraycopy")) {
+          + "|Integer\\.(bitCount|compare)|System\\.arraycopy")) {
         broken(4, "call of " + called.group());
       }
     }
