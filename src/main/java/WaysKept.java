@@ -584,43 +584,46 @@ public final class WaysKept {
     }
   }
 
-  /** How far it was as of each act, a row for each; the first row is as of act 0. */
+  /** How far it was as of each act; the first is act 0. */
   private static final class Past {
-    private static final int MOST_ROWS = MOST_ACTS + 1;
-    private static final int FIRST_ROWS = 16;
+    private static final int MOST_KEPT = MOST_ACTS + 1;
 
-    private int[] fars = new int[FIRST_ROWS * PAIRS];
-    private int rows;
+    private final Fars[] asOf = new Fars[MOST_KEPT];
+    private int kept;
 
     void clear() {
-      rows = 0;
+      kept = 0;
     }
 
     int countActs() {
-      return rows - 1;
+      return kept - 1;
     }
 
     boolean isFull() {
-      return rows >= MOST_ROWS;
+      return kept >= MOST_KEPT;
     }
 
     boolean hasAct(int act) {
-      return act >= 1 && act < rows;
+      return act >= 1 && act < kept;
     }
 
     void keep(Ways ways) {
       if (isFull()) {
         return;
       }
-      makeRoom();
-      for (int pair = 0; pair < PAIRS; pair++) {
-        fars[rows * PAIRS + pair] = ways.leastPrice(pair / MOST_POSTS, pair % MOST_POSTS);
+      // Made at the act that needs it and used again behind posts: most objects see few acts.
+      Fars fars = asOf[kept];
+      if (fars == null) {
+        fars = new Fars();
+        asOf[kept] = fars;
       }
-      rows++;
+      fars.take(ways);
+      kept++;
     }
 
     int leastAsOf(int act, int pair) {
-      return fars[act * PAIRS + pair];
+      Fars fars = asOf[act];
+      return fars == null ? NONE : fars.least[pair];
     }
 
     int countMoved(int act) {
@@ -647,7 +650,7 @@ public final class WaysKept {
     }
 
     int firstWithin(int act, int pair, int price) {
-      for (int later = act; later < rows; later++) {
+      for (int later = act; later < kept; later++) {
         int least = leastAsOf(later, pair);
         if (least != NONE && least <= price) {
           return later;
@@ -659,11 +662,15 @@ public final class WaysKept {
     private boolean isMoved(int act, int pair) {
       return leastAsOf(act, pair) != leastAsOf(act - 1, pair);
     }
+  }
 
-    /** Most objects see few acts: room for all of them in each would be dear. */
-    private void makeRoom() {
-      if ((rows + 1) * PAIRS > fars.length) {
-        fars = Arrays.copyOf(fars, Math.min(2 * fars.length, MOST_ROWS * PAIRS));
+  /** How far it was between all posts at one time. */
+  private static final class Fars {
+    private final int[] least = new int[PAIRS];
+
+    void take(Ways ways) {
+      for (int pair = 0; pair < PAIRS; pair++) {
+        least[pair] = ways.leastPrice(pair / MOST_POSTS, pair % MOST_POSTS);
       }
     }
   }

@@ -5,31 +5,50 @@ import java.lang.management.ManagementFactory;
 public final class RoomTest {
   /** 7.3 million elements, and no element takes less than a byte; most take four. */
   private static final long MOST_BYTES = 7_300_000L;
+  /** What the measuring itself may take. */
+  private static final long MEASURING_BYTES = 4096;
   private static final int CALLS = 512;
+  private static final ThreadMXBean ROOM = (ThreadMXBean) ManagementFactory.getThreadMXBean();
   private static int wrong = 0;
 
   public static void main(String[] args) {
-    ThreadMXBean room = (ThreadMXBean) ManagementFactory.getThreadMXBean();
+    // The first round also loads classes, which is no room of the program's own.
     for (int round = 0; round < 3; round++) {
-      long begun = room.getThreadAllocatedBytes(Thread.currentThread().getId());
+      long begun = taken();
       newObjects();
-      long made = room.getThreadAllocatedBytes(Thread.currentThread().getId());
-      acts();
-      long acted = room.getThreadAllocatedBytes(Thread.currentThread().getId());
-      look("new objects", made - begun);
-      look("acts and posts", acted - made);
+      long made = taken();
+      long dearest = acts();
+      long acted = taken();
+      if (round == 2) {
+        look("new objects", made - begun);
+        look("acts", acted - made);
+        look("the dearest act, " + CALLS + " times", dearest * CALLS);
+      }
     }
-    asking(room);
+    actsAnew();
+    questions();
     if (wrong != 0) {
       System.exit(1);
     }
+  }
+
+  private static long taken() {
+    return ROOM.getThreadAllocatedBytes(Thread.currentThread().getId());
   }
 
   private static void look(String what, long bytes) {
     System.out.println(what + ": " + bytes + " bytes");
     if (bytes > MOST_BYTES) {
       wrong++;
-      System.out.println(what + " take too much room");
+      System.out.println(what + ": too much room");
+    }
+  }
+
+  private static void lookForNone(String what, long bytes) {
+    System.out.println(what + ": " + bytes + " bytes");
+    if (bytes > MEASURING_BYTES) {
+      wrong++;
+      System.out.println(what + " make objects");
     }
   }
 
@@ -39,33 +58,45 @@ public final class RoomTest {
     }
   }
 
-  private static void acts() {
-    WaysKept kept = new WaysKept();
-    kept.posts(10);
-    kept.line(0, 9, 1, true);
-    for (int i = 0; i < CALLS; i++) {
-      kept.price(0, i % 7);
-      if (i == 405) {
-        kept.posts(10);
-        kept.line(0, 9, 1, true);
-      }
-    }
+  /** As many acts as there may be and some refused ones: how much the dearest call takes. */
+  private static long acts() {
+    return dearestOf(new WaysKept());
   }
 
-  private static void asking(ThreadMXBean room) {
+  /** Behind posts, acts find the room that was made before. */
+  private static void actsAnew() {
+    WaysKept kept = new WaysKept();
+    dearestOf(kept);
+    long begun = taken();
+    dearestOf(kept);
+    lookForNone("acts behind posts", taken() - begun);
+  }
+
+  private static long dearestOf(WaysKept kept) {
+    kept.posts(10);
+    kept.line(0, 9, 1, true);
+    long dearest = 0;
+    for (int i = 0; i < CALLS; i++) {
+      long begun = taken();
+      kept.price(0, i % 7);
+      dearest = Math.max(dearest, taken() - begun);
+    }
+    return dearest;
+  }
+
+  private static void questions() {
     WaysKept kept = new WaysKept();
     kept.posts(10);
     for (int i = 0; i < 9; i++) {
       kept.line(i, i + 1, 1, true);
     }
     for (int round = 0; round < 2; round++) {
-      long begun = room.getThreadAllocatedBytes(Thread.currentThread().getId());
+      long begun = taken();
       int all = askAll(kept);
-      long asked = room.getThreadAllocatedBytes(Thread.currentThread().getId()) - begun;
-      System.out.println("questions: " + asked + " bytes (answers together " + all + ")");
-      if (round == 1 && asked > 4096) {
-        wrong++;
-        System.out.println("questions make objects");
+      long asked = taken() - begun;
+      System.out.println("answers together " + all);
+      if (round == 1) {
+        lookForNone("questions", asked);
       }
     }
   }
